@@ -576,8 +576,6 @@ public final class PluginYard {
             of[size] = q;
             version[size] = fromVersion;
             optional[size] = isOptional;
-            old[size] = false;
-            counts[size] = !isOptional;
             size++;
         }
 
@@ -896,7 +894,7 @@ public final class PluginYard {
         }
 
         // No addition may answer NaN: a weight that is NaN is the sum itself, and of infinities that
-        // have no sum the one that came first stays.
+        // have no sum the first one stays, which is the greater.
         double total() {
             double sum = 0;
             for (int k = 0; k < size; k++) {
@@ -904,16 +902,16 @@ public final class PluginYard {
                 if (weight != weight) {
                     return weight;
                 }
-                if (!areOppositeInfinities(sum, weight)) {
+                if (!haveNoSum(sum, weight)) {
                     sum += weight;
                 }
             }
             return sum;
         }
 
-        private static boolean areOppositeInfinities(double one, double other) {
+        private static boolean haveNoSum(double greater, double less) {
             double greatest = 1.7976931348623157E308;
-            return one > greatest && other < -greatest || one < -greatest && other > greatest;
+            return greater > greatest && less < -greatest;
         }
     }
 }

@@ -771,9 +771,16 @@ public final class PromisesTest {
         x.extension(0, 0, Double.POSITIVE_INFINITY, 0);
         x.extension(0, 1, Double.MAX_VALUE, 0);
         x.extension(0, 1, Double.MAX_VALUE, 0);
+        x.archive(1, v("1"), v("1"));
+        x.extension(1, 2, Double.MAX_VALUE, 0);
+        x.extension(1, 2, Double.NEGATIVE_INFINITY, 0);
+        x.extension(1, 3, Double.NaN, 0);
+        x.extension(1, 3, 1, 0);
         x.start();
         CHECKS.answers(Double.POSITIVE_INFINITY, "infinities that have no sum", () -> x.weight(0));
         CHECKS.answers(Double.POSITIVE_INFINITY, "beyond the greatest", () -> x.weight(1));
+        CHECKS.answers(Double.NEGATIVE_INFINITY, "the greatest and an infinity", () -> x.weight(2));
+        CHECKS.answers(Double.NaN, "one that is NaN", () -> x.weight(3));
     }
 
     private static void look() {
