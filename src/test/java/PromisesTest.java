@@ -1,14 +1,5 @@
-import java.util.NoSuchElementException;
-
 /** The promises of the document one by one: ordinary inputs, edges, and every exception. */
-public final class PromisesTest {
-    private static final Class<IllegalArgumentException> ARGUMENT = IllegalArgumentException.class;
-    private static final Class<IllegalStateException> STATE = IllegalStateException.class;
-    private static final Class<NoSuchElementException> NO_SUCH = NoSuchElementException.class;
-    private static final Class<IndexOutOfBoundsException> BOUNDS = IndexOutOfBoundsException.class;
-
-    private static final Checks CHECKS = new Checks();
-
+public final class PromisesTest extends YardChecks {
     public static void main(String[] args) {
         newObject();
         host();
@@ -42,31 +33,6 @@ public final class PromisesTest {
         compareRefuses();
         count();
         CHECKS.end();
-    }
-
-    private static long v(String text) {
-        return Checks.v(text);
-    }
-
-    private static PluginYard yard(int plugins) {
-        PluginYard x = new PluginYard();
-        for (int p = 0; p < plugins; p++) {
-            x.archive(p, v("1"), v("1"));
-        }
-        return x;
-    }
-
-    private static void needs(PluginYard x, int p, int... others) {
-        for (int q : others) {
-            x.need(p, q, v("1"), false);
-        }
-    }
-
-    private static void causes(PluginYard x, int... want) {
-        for (int p = 0; p < want.length; p++) {
-            int q = p;
-            CHECKS.answers(want[p], "look(" + p + ", 1)", () -> x.look(q, 1));
-        }
     }
 
     private static void newObject() {
