@@ -180,13 +180,9 @@ public final class PluginYard {
         int sum = 0;
         int looker = p;
         int wanted = name;
-        for (int length = 0; length <= LONGEST_WAY; length++) {
+        for (int length = 0; length < LONGEST_WAY; length++) {
             int owner = sight.ownerOf(plugins, looker, wanted);
             requireSeen(owner);
-            // A class too many is looked for all the same: one that is not seen makes no way longer.
-            if (length == LONGEST_WAY) {
-                break;
-            }
             sum += intOf(owner, wanted);
             int next = referredBy(owner, wanted);
             if (next < 0) {
@@ -195,7 +191,8 @@ public final class PluginYard {
             looker = owner;
             wanted = next;
         }
-        throw new IllegalStateException("the way is too long");
+        // Whether the class too many would be seen does not matter: it is not looked for.
+        throw new IllegalStateException("the way would be too long");
     }
 
     public int uber(int name) throws NoSuchElementException, IllegalArgumentException {

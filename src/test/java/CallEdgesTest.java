@@ -710,7 +710,8 @@ public final class CallEdgesTest extends YardChecks {
         PluginYard z = chain(16);
         z.cls(1, 14, 1, 15);
         z.start();
-        CHECKS.refuses(NO_SUCH, "link(0, 3), the 17th is not seen", () -> z.link(0, 3));
+        CHECKS.refuses(STATE, "link(0, 3), the 17th would not be seen", () -> z.link(0, 3));
+        CHECKS.refuses(NO_SUCH, "link(0, 4), the 16th is not seen", () -> z.link(0, 4));
     }
 
     private static void linkRefuses() {

@@ -581,7 +581,7 @@ public final class PromisesTest extends YardChecks {
         x.cls(0, 15, 1, 1);
         CHECKS.refuses(STATE, "the 17th is the host's", () -> x.link(1, 4));
         x.ways(0, 2, false, false);
-        CHECKS.refuses(NO_SUCH, "the 17th is not seen", () -> x.link(1, 4));
+        CHECKS.refuses(STATE, "the 17th would not be seen", () -> x.link(1, 4));
     }
 
     private static void uber() {

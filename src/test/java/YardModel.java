@@ -402,15 +402,15 @@ final class YardModel {
         }
         List<Found> way = new ArrayList<>();
         Found found = sees(p, name);
-        while (found != null && way.size() < 17) {
+        while (found != null) {
             way.add(found);
             if (found.refers < 0) {
                 break;
             }
+            if (way.size() == 16) {
+                return STATE;
+            }
             found = sees(found.owner, found.refers);
-        }
-        if (way.size() > 16) {
-            return STATE;
         }
         return found == null ? NO_SUCH : way.stream().mapToInt(Found::value).sum();
     }
