@@ -48,6 +48,7 @@ public final class CallEdgesTest extends YardChecks {
         weightRefuses();
         lookAtFirst();
         lookAsItWasResolvedLast();
+        lookUntilTheNextResolving();
         lookRefuses();
         countArchivesAndActive();
         countStartsAndStops();
@@ -185,6 +186,7 @@ public final class CallEdgesTest extends YardChecks {
         CHECKS.promise("3: IllegalStateException: it is ACTIVE");
         PluginYard x = yard(2);
         has(x, 0, 5, 50);
+        x.extension(0, 0, 8, 5);
         x.enable(1, false);
         x.start();
         refusesAndKeeps(x, STATE, "archive(0)", () -> x.archive(0, v("1"), v("1")));
@@ -504,7 +506,9 @@ public final class CallEdgesTest extends YardChecks {
         CHECKS.answers(0, "load(0), which is not ACTIVE any more", () -> x.load(0));
         causes(x, 0, 1);
         x.shutdown();
-        CHECKS.refuses(STATE, "load(0) after the shutdown", () -> x.load(0));
+        x.enable(0, false);
+        refusesAndKeeps(x, STATE, "load(0) after the shutdown", () -> x.load(0));
+        causes(x, 0, 1);
     }
 
     private static void stopAnswersHowMany() {
@@ -589,7 +593,13 @@ public final class CallEdgesTest extends YardChecks {
         refusesAndKeeps(x, STATE, "shutdown before the start", x::shutdown);
         x.start();
         CHECKS.answers(1, "shutdown", x::shutdown);
+        findsNone(x, 5);
+        finds(x, 0, -1);
         refusesAndKeeps(x, STATE, "shutdown again", x::shutdown);
+        findsNone(x, 5);
+        finds(x, 0, -1);
+        counts(x, 2, 2);
+        counts(x, 3, 2);
     }
 
     private static void seeRefuses() {
@@ -646,6 +656,8 @@ public final class CallEdgesTest extends YardChecks {
         CHECKS.answers(192, "link(2, 8): from 2 to 0", () -> x.link(2, 8));
         x.cls(0, 5, 50, 7);
         CHECKS.refuses(NO_SUCH, "link(2, 5): 0 does not see 7, though 2 does", () -> x.link(2, 5));
+        x.cls(1, 6, 61, 8);
+        CHECKS.answers(60, "link(1, 6): the class of 0 refers to none, though that of 1 does", () -> x.link(1, 6));
     }
 
     private static void linkWraps() {
@@ -871,6 +883,48 @@ public final class CallEdgesTest extends YardChecks {
         x.shutdown();
         causes(x, 6, 0, 1);
         looks(x, PLACE, -1, 0, -1);
+    }
+
+    private static void lookUntilTheNextResolving() {
+        CHECKS.promise("18: as it was RESOLVED last, whatever was called since");
+        PluginYard x = yard(5);
+        needs(x, 1, 0, 11);
+        x.enable(2, false);
+        fails(x, 3);
+        x.start();
+        x.enable(4, false);
+        CHECKS.answers(1, "load(2)", () -> x.load(2));
+        resolvedAsBefore(x, "load");
+        x.enable(2, true);
+        x.enable(0, false);
+        resolvedAsBefore(x, "enable");
+        x.need(1, 2, v("1"), false);
+        x.need(3, 11, v("1"), false);
+        resolvedAsBefore(x, "need");
+        x.stop(0);
+        x.stop(4);
+        resolvedAsBefore(x, "stop");
+        x.shutdown();
+        resolvedAsBefore(x, "shutdown");
+        x.host(v("0"));
+        resolvedAsBefore(x, "host");
+        for (int p : new int[] {0, 1, 2, 3, 4, 11}) {
+            x.archive(p, v("2"), v("2"));
+        }
+        resolvedAsBefore(x, "archive");
+        x.host(v("2"));
+        x.enable(0, true);
+        CHECKS.answers(5, "start", x::start);
+        causes(x, 0, 0, 0, 0, 1);
+        looks(x, PLACE, 0, 1, 2, 3, -1);
+        looks(x, BLAMED, -1, -1, -1, -1, -1);
+    }
+
+    private static void resolvedAsBefore(PluginYard x, String call) {
+        CHECKS.promise("18: as it was RESOLVED last, after " + call);
+        causes(x, 0, 4, 1, 0, 1);
+        looks(x, PLACE, 0, -1, -1, 1, -1);
+        looks(x, BLAMED, -1, 1, -1, -1, -1);
     }
 
     private static void lookRefuses() {

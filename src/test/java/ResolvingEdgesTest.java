@@ -22,6 +22,7 @@ public final class ResolvingEdgesTest extends YardChecks {
         oldBeforeBroken();
         theFirstNeedCounts();
         byWhatIsSoAtThatMoment();
+        oneAfterTheOther();
         asLongAsAnyChanges();
         optionalNeedThatCounts();
         otherNeedsAlwaysCount();
@@ -317,6 +318,18 @@ public final class ResolvingEdgesTest extends YardChecks {
         x.start();
         causes(x, BROKEN, DISABLED, MISSING, BROKEN);
         looks(x, BLAMED, 1, -1, 0, 0);
+    }
+
+    private static void oneAfterTheOther() {
+        CHECKS.promise("one after the other, and PLUGIN 0 again only when all have had their turn");
+        PluginYard x = yard(6);
+        needs(x, 0, 3);
+        needs(x, 3, 11);
+        needs(x, 4, 0, 3);
+        needs(x, 5, 0, 4);
+        x.start();
+        causes(x, BROKEN, 0, 0, MISSING, BROKEN, BROKEN);
+        looks(x, BLAMED, 0, -1, -1, 0, 1, 1);
     }
 
     private static void asLongAsAnyChanges() {

@@ -271,6 +271,9 @@ public final class SightEdgesTest extends YardChecks {
         seesNone(x, 1, 5);
         sees(x, 2, 5, 50);
         sees(x, 2, 6, 60);
+        x.ways(2, 1 | 1 << 5, true, false);
+        seesNone(x, 2, 0);
+        seesNone(x, 2, 5);
     }
 
     private static void itsOwnLast() {
